@@ -1,0 +1,69 @@
+import java.nio.charset.StandardCharsets;
+
+/** What the tests share: texts put on the TAPE, and answers held against those that are due. */
+final class Bench {
+    private final String title;
+    private int wrong = 0;
+    private int asked = 0;
+
+    Bench(String title) {
+        this.title = title;
+    }
+
+    void due(String what, long got, long want) {
+        asked++;
+        if (got != want) {
+            wrong++;
+            System.out.println(title + ": " + what + " answered " + got + ", due is " + want);
+        }
+    }
+
+    void due(String what, boolean got, boolean want) {
+        due(what, got ? 1 : 0, want ? 1 : 0);
+    }
+
+    /** A text on an empty CASE: its FAULT and the FAULT's place. */
+    void dueFault(String text, int fault, int place) {
+        HalfCourt court = new HalfCourt();
+        int answer = tell(court, text);
+        String shown = "'" + text + "'";
+        due(shown + " trial() is NONE", answer == HalfCourt.NONE, fault != 0);
+        due(shown + " fault(0)", court.fault(0), fault);
+        due(shown + " fault(1)", court.fault(1), place);
+    }
+
+    void close() {
+        System.out.println(title + ": " + (asked - wrong) + " of " + asked + " answers are as due");
+        if (wrong != 0) {
+            System.exit(1);
+        }
+    }
+
+    static void feed(HalfCourt court, String text) {
+        byte[] bytes = text.getBytes(StandardCharsets.ISO_8859_1);
+        int before = court.about(9);
+        for (int at = 0; at < bytes.length; at += 20) {
+            int[] five = new int[5];
+            for (int i = 0; i < 20; i++) {
+                int one = at + i < bytes.length ? bytes[at + i] & 255 : ' ';
+                five[i / 4] = five[i / 4] << 8 | one;
+            }
+            court.feed(five[0], five[1], five[2], five[3], five[4]);
+        }
+        court.end(before + bytes.length);
+    }
+
+    static int tell(HalfCourt court, String text) {
+        court.end(0);
+        feed(court, text);
+        return court.trial();
+    }
+
+    static HalfCourt court(String text) {
+        HalfCourt court = new HalfCourt();
+        if (tell(court, text) == HalfCourt.NONE) {
+            System.out.println("a FAULT " + court.fault(0) + " at " + court.fault(1) + " in: " + text);
+        }
+        return court;
+    }
+}
