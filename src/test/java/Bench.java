@@ -22,8 +22,17 @@ final class Bench {
         due(what, got ? 1 : 0, want ? 1 : 0);
     }
 
-    /** A text on an empty CASE: its FAULT and the FAULT's place. */
-    void dueFault(String text, int fault, int place) {
+    /** A text with a ^ where its FAULT is due. */
+    void dueFault(int fault, String marked) {
+        int place = marked.indexOf('^');
+        dueAnswer(marked.substring(0, place) + marked.substring(place + 1), fault, place);
+    }
+
+    void dueNoFault(String text) {
+        dueAnswer(text, 0, HalfCourt.NONE);
+    }
+
+    private void dueAnswer(String text, int fault, int place) {
         HalfCourt court = new HalfCourt();
         int answer = tell(court, text);
         String shown = "'" + text + "'";
