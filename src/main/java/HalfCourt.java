@@ -70,9 +70,9 @@ public final class HalfCourt {
     private int bytes = 0;
     private CaseFile open = new CaseFile();
     private CaseFile spare = new CaseFile();
-    private final CaseReader reader = new CaseReader();
-    private final Hearing hearing = new Hearing();
-    private final Plans plans = new Plans();
+    private final CaseReader reader = new CaseReader(spare);
+    private final Hearing hearing = new Hearing(open);
+    private final Plans plans = new Plans(hearing);
     private final Protocol protocol = new Protocol();
     private final Protocol[] boxes = new Protocol[BOXES];
 
@@ -80,8 +80,6 @@ public final class HalfCourt {
         for (int box = 0; box < BOXES; box++) {
             boxes[box] = new Protocol();
         }
-        hearing.hold(open);
-        plans.hold(hearing);
     }
 
     public int feed(int a, int b, int c, int d, int e) {
@@ -118,7 +116,7 @@ public final class HalfCourt {
             boxes[box].kept = false;
         }
         hearing.hold(open);
-        plans.hold(hearing);
+        plans.forget();
         return open.witnesses.count;
     }
 
@@ -583,9 +581,13 @@ public final class HalfCourt {
     /** Reads a text into a CASE, up to its first FAULT. */
     private static final class CaseReader {
         private final Tokens tokens = new Tokens();
-        private CaseFile file = null;
+        private CaseFile file;
         int found = 0;
         int place = NONE;
+
+        CaseReader(CaseFile first) {
+            file = first;
+        }
 
         boolean read(byte[] text, int length, CaseFile into) {
             file = into;
@@ -1246,7 +1248,7 @@ public final class HalfCourt {
         // One who sits on a SEAT gets a row of his own behind the WITNESSES.
         private static final int GUEST = MOST_WITNESSES;
 
-        CaseFile file = null;
+        CaseFile file;
         private final long[] sight = new long[(MOST_WITNESSES + 1) * MOST_MINUTES];
         private final long[] seen = new long[MOST_MINUTES];
         private final long[] unlike = new long[MOST_DEEDS * MOST_DEEDS * MOST_MINUTES];
@@ -1260,6 +1262,11 @@ public final class HalfCourt {
         int bestY = 0;
         int bestSide = 0;
         int bestUse = NONE;
+
+        /** Begins with a CASE that is empty, of which nothing follows. */
+        Hearing(CaseFile empty) {
+            file = empty;
+        }
 
         void hold(CaseFile held) {
             file = held;
@@ -1407,14 +1414,17 @@ public final class HalfCourt {
     private static final class Plans {
         private static final int SETS = 1 << MOST_DEEDS;
 
-        private Hearing hearing = null;
+        private final Hearing hearing;
         private boolean known = false;
         private final int[] fees = new int[SETS];
         private final int[] first = new int[SETS];
         private final int[] turnFees = new int[SETS];
 
-        void hold(Hearing held) {
+        Plans(Hearing held) {
             hearing = held;
+        }
+
+        void forget() {
             known = false;
         }
 

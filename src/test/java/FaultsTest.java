@@ -49,6 +49,11 @@ public final class FaultsTest {
         bench.dueFault(1, "scene ^9by 1;");
         bench.dueFault(1, HEAD + "thing ^abcdefghi;");
         bench.dueNoFault(HEAD + "thing abcdefgh;");
+        bench.dueNoFault(HEAD + "thing ijklmnop;thing qrstuvwx;thing yz;");
+        bench.dueFault(1, HEAD + "thing ^`;");
+        bench.dueFault(1, HEAD + "thing z^{");
+        bench.dueFault(1, "scene ^:");
+        bench.dueNoFault("scene 6 by 6;minutes 5;fog 0 far 9;fog 1 far 8;fog 2 far 7;law 6789;");
         bench.dueFault(1, HEAD + "^minutesss");
         bench.dueFault(1, HEAD + "thing k;deed a ^witnesses;");
         bench.dueFault(2, HEAD + "thing k^2;");
@@ -177,6 +182,11 @@ public final class FaultsTest {
         bench.dueFault(4, HEAD + "witness w at ^3 0");
         bench.dueFault(4, HEAD + "witness w at 0 ^2");
         bench.dueFault(2, HEAD + "witness w ^0 0");
+        bench.dueFault(2, HEAD + "witness w^;");
+        bench.dueFault(2, HEAD + "witness w at 0^;");
+        bench.dueFault(2, HEAD + "witness w at 0 0^;");
+        bench.dueFault(2, HEAD + "witness w at 0 0 looks^;");
+        bench.dueFault(2, HEAD + "witness w at 0 0 looks left^;");
         bench.dueFault(2, HEAD + "witness w at 0 0 ^left");
         bench.dueFault(2, HEAD + "witness w at 0 0 looks ^from 0");
         bench.dueFault(2, HEAD + "witness w at 0 0 looks ^in");
@@ -218,6 +228,11 @@ public final class FaultsTest {
         bench.dueFault(2, HEAD + "law 1 ^sees;");
         bench.dueFault(2, HEAD + "law (^);");
         bench.dueFault(2, HEAD + "law 1 * ^;");
+        bench.dueFault(2, HEAD + "law 1 + ^;");
+        bench.dueFault(2, HEAD + "law 1 and^;");
+        bench.dueFault(2, HEAD + "law 1 =^;");
+        bench.dueFault(2, HEAD + "law not^;");
+        bench.dueFault(2, HEAD + "law (1)^(1);");
         bench.dueFault(2, HEAD + "law 1 ^not 1;");
         bench.dueFault(1, HEAD + "law 1 ^& 1;");
         bench.dueFault(1, HEAD + "law ^1or 1;");

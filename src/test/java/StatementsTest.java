@@ -26,6 +26,7 @@ public final class StatementsTest {
         test.sayingTwice();
         test.striking();
         test.images();
+        test.wholeImages();
         test.bench.close();
     }
 
@@ -306,5 +307,35 @@ public final class StatementsTest {
         bench.due("STATEMENTS", court.about(7), 0);
         bench.due("image(1) over it", court.image(1), 0);
         bench.due("back(1)", court.back(1), 0);
+    }
+
+    private void wholeImages() {
+        HalfCourt court = Bench.court(CASE);
+        court.later(2);
+        court.image(0);
+        court.later(3);
+        court.state(0, 0, 0, 0, 3);
+        court.state(0, 0, 0, 0, 1);
+        court.state(2, 1, 1, 0, 0);
+        court.state(0, 1, 0, 1, 0);
+        court.image(1);
+        court.back(0);
+        for (int i = 0; i < 4; i++) {
+            court.state(1, 3, i % 2, 0, i);
+        }
+        court.image(2);
+        bench.due("back(1)", court.back(1), 4);
+        bench.due("TWICE, as it was", court.twice(5), 1);
+        bench.due("TOLD at 5", court.twice(4), 0);
+        bench.due("liars by a", court.liars(0, 5), 5);
+        bench.due("liars by b", court.liars(1, 5), 1);
+        bench.due("struck by 3, 1, 2", court.struck(0, 5), 1);
+        bench.due("b", court.struck(1, 5), 1);
+        bench.due("without 0 and 3", court.untell(0) && court.untell(3), true);
+        bench.due("b FITS", court.fits(5), 2);
+        bench.due("back(2)", court.back(2), 4);
+        bench.due("TOLD at 2", court.liars(0, 2), 2);
+        bench.due("TWICE of v", court.twice(2), 2);
+        bench.due("struck by 3, 3, 3", court.struck(0, 2), 3);
     }
 }

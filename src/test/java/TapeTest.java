@@ -134,6 +134,7 @@ public final class TapeTest {
         bench.due("no MINUTE", court.blind(0), -1);
         bench.due("an empty TAPE is the empty CASE", court.trial(), 0);
         bench.due("across", court.about(0), 0);
+        bench.due("up", court.about(1), 0);
         bench.due("no SEAT", court.bestSeat(3), -1);
     }
 
