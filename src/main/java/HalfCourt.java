@@ -1512,12 +1512,12 @@ public final class HalfCourt {
             }
         }
 
-        private int greatestLeft(int set, int witness, int[] known) {
+        private int greatestLeft(int set, int witness, int[] feesOfLess) {
             int greatest = 0;
             for (int deed = 0; deed < MOST_DEEDS; deed++) {
                 if ((set >> deed & 1) == 1) {
                     int unlike = (int) (hearing.partedBy[witness] >> deed * MOST_DEEDS);
-                    greatest = Math.max(greatest, known[set & ~unlike]);
+                    greatest = Math.max(greatest, feesOfLess[set & ~unlike]);
                 }
             }
             return greatest;
