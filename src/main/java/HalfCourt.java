@@ -470,7 +470,13 @@ public final class HalfCourt {
     private static final class Tokens {
         private static final int MOST_LETTERS = 8;
         private static final int MOST_DIGITS = 4;
+        private static final int BYTE_COUNT = 256;
+        private static final int BLANK = 1;
+        private static final int LETTER = 2;
+        private static final int DIGIT = 3;
+        private static final int SIGN = 4;
 
+        private final int[] sorts = new int[BYTE_COUNT];
         private final long[] words = new long[WORD_COUNT];
         private byte[] text = new byte[0];
         private int length = 0;
@@ -481,6 +487,10 @@ public final class HalfCourt {
         long word = 0;
 
         Tokens() {
+            sortBytes(" \n", BLANK);
+            sortBytes("abcdefghijklmnopqrstuvwxyz", LETTER);
+            sortBytes("0123456789", DIGIT);
+            sortBytes(";()<>=+-*/%", SIGN);
             int at = 0;
             for (int i = 0; i < WORDS.length(); i++) {
                 char sign = WORDS.charAt(i);
@@ -492,6 +502,12 @@ public final class HalfCourt {
             }
         }
 
+        private void sortBytes(String signs, int sort) {
+            for (int i = 0; i < signs.length(); i++) {
+                sorts[signs.charAt(i) & 255] = sort;
+            }
+        }
+
         void begin(byte[] bytes, int count) {
             text = bytes;
             length = Math.min(count, bytes.length);
@@ -500,81 +516,65 @@ public final class HalfCourt {
         }
 
         void advance() {
-            for (int i = next; i < length && (byteAt(i) == ' ' || byteAt(i) == '\n'); i++) {
-                next = i + 1;
-            }
+            pass(BLANK);
             start = next;
-            int first = byteAt(next);
-            if (first == NONE) {
+            if (next >= length) {
                 kind = END;
-            } else if (isLetter(first)) {
-                takeWord();
-            } else if (isDigit(first)) {
-                takeNumber();
-            } else if (isSign(first)) {
-                kind = first;
-                next++;
-            } else {
-                kind = BAD;
+                return;
+            }
+            switch (sorts[text[next] & 255]) {
+                case LETTER:
+                    pass(LETTER);
+                    takeWord();
+                    break;
+                case DIGIT:
+                    pass(DIGIT);
+                    takeNumber();
+                    break;
+                case SIGN:
+                    kind = text[next];
+                    next++;
+                    break;
+                default:
+                    kind = BAD;
+            }
+        }
+
+        /** Goes behind all bytes of a sort that stand next. */
+        private void pass(int sort) {
+            for (int i = next; i < length && sorts[text[i] & 255] == sort; i++) {
+                next = i + 1;
             }
         }
 
         private void takeWord() {
-            word = 0;
-            for (int i = start; i < length && isLetter(byteAt(i)); i++) {
-                word = word << 8 | byteAt(i);
-                next = i + 1;
+            if (next - start > MOST_LETTERS) {
+                kind = BAD;
+                return;
             }
-            kind = next - start > MOST_LETTERS ? BAD : kindOfWord();
+            word = 0;
+            for (int i = start; i < next; i++) {
+                word = word << 8 | text[i];
+            }
+            kind = NAME;
+            for (int i = 0; i < WORD_COUNT && kind == NAME; i++) {
+                if (words[i] == word) {
+                    kind = SCENE + i;
+                }
+            }
         }
 
         private void takeNumber() {
+            boolean letterBehind = next < length && sorts[text[next] & 255] == LETTER;
+            if (next - start > MOST_DIGITS || letterBehind) {
+                kind = BAD;
+                return;
+            }
             number = 0;
-            for (int i = start; i < length && isDigit(byteAt(i)); i++) {
-                number = number * 10 + byteAt(i) - '0';
-                next = i + 1;
+            for (int i = start; i < next; i++) {
+                number = number * 10 + text[i] - '0';
             }
-            kind = next - start > MOST_DIGITS || isLetter(byteAt(next)) ? BAD : NUMBER;
-        }
-
-        private int kindOfWord() {
-            for (int i = 0; i < WORD_COUNT; i++) {
-                if (words[i] == word) {
-                    return SCENE + i;
-                }
-            }
-            return NAME;
-        }
-
-        private int byteAt(int i) {
-            return i >= 0 && i < length ? text[i] & 255 : NONE;
-        }
-
-        private static boolean isLetter(int sign) {
-            return sign >= 'a' && sign <= 'z';
-        }
-
-        private static boolean isDigit(int sign) {
-            return sign >= '0' && sign <= '9';
-        }
-
-        private static boolean isSign(int sign) {
-            switch (sign) {
-                case ';':
-                case '(':
-                case ')':
-                case '<':
-                case '>':
-                case '=':
-                case '+':
-                case '-':
-                case '*':
-                case '/':
-                case '%':
-                    return true;
-                default:
-                    return false;
-            }
+            kind = NUMBER;
         }
     }
 
@@ -582,6 +582,7 @@ public final class HalfCourt {
     private static final class CaseReader {
         private final Tokens tokens = new Tokens();
         private CaseFile file;
+        private Look look = new Look();
         int found = 0;
         int place = NONE;
 
@@ -595,7 +596,10 @@ public final class HalfCourt {
             place = NONE;
             tokens.begin(text, length);
             for (int lines = 0; lines <= MOST_BYTES && tokens.kind != END; lines++) {
-                if (!readLine()) {
+                if (!lineMayStand()) {
+                    return refuse(CANNOT_STAND);
+                }
+                if (!readLine() || !take(';')) {
                     return false;
                 }
             }
@@ -603,15 +607,8 @@ public final class HalfCourt {
         }
 
         private boolean readLine() {
-            if (!lineMayStand()) {
-                return refuse(CANNOT_STAND);
-            }
             int first = tokens.kind;
             tokens.advance();
-            return readRest(first) && take(';');
-        }
-
-        private boolean readRest(int first) {
             switch (first) {
                 case SCENE:
                     return readScene();
@@ -626,7 +623,7 @@ public final class HalfCourt {
                 case DEED:
                     return readDeed();
                 case WITNESS:
-                    return readWitness();
+                    return readPlace() && readTimes();
                 default:
                     return readEither(0);
             }
@@ -767,8 +764,9 @@ public final class HalfCourt {
             return true;
         }
 
-        private boolean readWitness() {
-            Look look = file.looks[file.witnesses.count];
+        /** Who a WITNESS is, where he is and to which side he looks. */
+        private boolean readPlace() {
+            look = file.looks[file.witnesses.count];
             if (!readName(file.witnesses) || !take(AT) || !numberStands(0, file.across - 1)) {
                 return false;
             }
@@ -785,10 +783,10 @@ public final class HalfCourt {
             }
             look.side = tokens.kind - LEFT;
             tokens.advance();
-            return readTimes(look);
+            return true;
         }
 
-        private boolean readTimes(Look look) {
+        private boolean readTimes() {
             if (!take(FROM) || !numberStands(0, file.minutes - 1)) {
                 return false;
             }
@@ -1388,8 +1386,8 @@ public final class HalfCourt {
                 bestUse = NONE;
                 for (int y = 0; y < file.up; y++) {
                     for (int x = 0; x < file.across; x++) {
-                        if (!file.hasWall(x, y)) {
-                            tryBest(x, y);
+                        for (int side = 0; side < SIDES && !file.hasWall(x, y); side++) {
+                            keepBest(x, y, side, useOf(x, y, side));
                         }
                     }
                 }
@@ -1397,15 +1395,12 @@ public final class HalfCourt {
             return bestUse != NONE;
         }
 
-        private void tryBest(int x, int y) {
-            for (int side = 0; side < SIDES; side++) {
-                int use = useOf(x, y, side);
-                if (use > bestUse) {
-                    bestUse = use;
-                    bestX = x;
-                    bestY = y;
-                    bestSide = side;
-                }
+        private void keepBest(int x, int y, int side, int use) {
+            if (use > bestUse) {
+                bestUse = use;
+                bestX = x;
+                bestY = y;
+                bestSide = side;
             }
         }
     }
