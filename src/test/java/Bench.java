@@ -1,8 +1,12 @@
 import java.nio.charset.StandardCharsets;
 
-/** What the tests share: texts put on the TAPE, and answers held against those that are due. */
+/** What the tests share: the document's words, texts put on the TAPE, and answers held against those that are due. */
 final class Bench {
+    private static final int MOST_SHOWN = 60;
+
     private final String title;
+    private final Document document = new Document();
+    private String tested = "";
     private int wrong = 0;
     private int asked = 0;
 
@@ -10,16 +14,29 @@ final class Bench {
         this.title = title;
     }
 
+    /** What follows tests these words, which stand in that section of the document. */
+    void words(String section, String words) {
+        tested = section + ": '" + (words.length() > MOST_SHOWN ? words.substring(0, MOST_SHOWN) + " .." : words) + "': ";
+        due("the document says so", document.says(section, words), true);
+    }
+
     void due(String what, long got, long want) {
         asked++;
         if (got != want) {
             wrong++;
-            System.out.println(title + ": " + what + " answered " + got + ", due is " + want);
+            System.out.println(title + ": " + tested + what + " answered " + got + ", due is " + want);
         }
     }
 
     void due(String what, boolean got, boolean want) {
         due(what, got ? 1 : 0, want ? 1 : 0);
+    }
+
+    /** Many calls that all have the same answer. */
+    void dueAll(String what, long want, long... got) {
+        for (int i = 0; i < got.length; i++) {
+            due(what + " (" + i + ")", got[i], want);
+        }
     }
 
     /** A text with a ^ where its FAULT is due. */
@@ -32,7 +49,7 @@ final class Bench {
         dueAnswer(text, 0, HalfCourt.NONE);
     }
 
-    private void dueAnswer(String text, int fault, int place) {
+    void dueAnswer(String text, int fault, int place) {
         HalfCourt court = new HalfCourt();
         int answer = tell(court, text);
         String shown = "'" + text + "'";
