@@ -257,8 +257,10 @@ public final class SightTest {
     private void orderOfSigns() {
         dueLaws(true, "1+2*3=7", "(1+2)*3=9", "7-2-1=4", "7-(2-1)=6", "9/2*2=8", "9%5*2=8", "2*9/4=4", "8/4/2=1", "8/(4/2)=4",
                 "1 or 0 and 0", "0 and 0 or 1", "0 or 0 or 3", "5 and 6 and 7", "not 1 or 1", "not 1<0", "not(1 and 0)", "not sees-4",
-                "sees*2>cells and fee", "sees-fee<0", "1-1=0", "minutes*cells/sees=3", "1<2 and 2<3", "not 0 and 1", "2+3=1+4");
-        dueLaws(false, "(1 or 0) and 0", "not(1 or 0)", "1 and(0 or 0)", "0-0", "0*9", "not 0 and 0", "not 1 and 1");
+                "sees*2>cells and fee", "sees-fee<0", "1-1=0", "minutes*cells/sees=3", "1<2 and 2<3", "not 0 and 1", "2+3=1+4",
+                "5-(3-0)=2", "5-(3-(0-1))=1", "7-(6-(5-(4-(3-(2-(1-0))))))=4", "9-2*(3*0)=9", "1 and(2 and not 0)");
+        dueLaws(false, "(1 or 0) and 0", "not(1 or 0)", "1 and(0 or 0)", "0-0", "0*9", "not 0 and 0", "not 1 and 1",
+                "5-(5-0)", "3*(2*(1*0))", "1 and(1 and 0)");
     }
 
     private void zeroIsSentOut() {

@@ -209,8 +209,8 @@ public final class TapeTest {
     private void noLawIsLeft() {
         String plain = "scene 3 by 1;minutes 1;thing x;deed x;deed y x at 0 0 in 0;witness y at 1 0 looks left from 0 to 0 fee 2;";
         HalfCourt court = new HalfCourt();
-        String[] laws = {"", "law 0;", "law 1;", "law 0 and 1;", "law not 0;", "", "law fee=2;", "law fee=3;"};
-        int[] heard = {1, 0, 1, 0, 1, 1, 1, 0};
+        String[] laws = {"", "law 0;", "law 1;", "law 0 and 1;", "law not 0;", "law 1;", "law not 1;", "law 0;", "law fee=2;", "law fee=3;"};
+        int[] heard = {1, 0, 1, 0, 1, 1, 0, 0, 1, 0};
         for (int first = 0; first < laws.length; first++) {
             for (int next = 0; next < laws.length; next++) {
                 bench.due("trial", Bench.tell(court, plain + laws[first]), 1);

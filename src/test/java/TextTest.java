@@ -103,6 +103,27 @@ public final class TextTest {
         }
     }
 
+    private static String sortOf(String token) {
+        return Character.isDigit(token.charAt(0)) ? "N" : token.length() == 1 && Character.isLetter(token.charAt(0)) ? "NAME" : token;
+    }
+
+    /** Each run of TOKENS of a line is left out: the FAULT is at the first that is of another sort than the line has there. */
+    private void eachGap(String before, String line) {
+        String[] tokens = line.split(" ");
+        for (int from = 0; from < tokens.length; from++) {
+            for (int to = from + 1; to <= tokens.length && to - from < tokens.length; to++) {
+                StringBuilder text = new StringBuilder(before);
+                int place = -1;
+                for (int i = 0; i < tokens.length - (to - from); i++) {
+                    String token = tokens[i < from ? i : i + to - from];
+                    place = place < 0 && !sortOf(token).equals(sortOf(tokens[i])) ? text.length() : place;
+                    text.append(token).append(' ');
+                }
+                bench.dueAnswer(text.toString(), 2, place < 0 ? text.length() : place);
+            }
+        }
+    }
+
     private void linesTokenByToken() {
         terms("line = scene N by N ; | minutes N ; | wall at N N ; | fog N far N ; | thing NAME ; | "
                 + "deed NAME {NAME at N N in N} ; | "
@@ -118,6 +139,22 @@ public final class TextTest {
         for (String side : new String[] {"left", "right", "up", "down"}) {
             eachToken(HEAD, "witness w at 2 1 looks " + side + " from 0 to 1 fee 9 ;");
         }
+        eachGap("", "scene 1 by 1 ;");
+        eachGap("scene 1 by 1;", "minutes 1 ;");
+        eachGap(HEAD, "wall at 1 1 ;");
+        eachGap(HEAD, "fog 1 far 1 ;");
+        eachGap(HEAD, "thing k ;");
+        eachGap(HEAD, "witness w at 1 1 looks left from 1 to 1 fee 1 ;");
+        bench.dueFault(2, THINGS + "deed k ^at 1 1 in 1;");
+        bench.dueFault(2, THINGS + "deed a ^at 1 1 in 1;");
+        bench.dueFault(2, THINGS + "deed a k ^1 1 in 1;");
+        bench.dueFault(2, THINGS + "deed a k at 1 ^in 1;");
+        bench.dueFault(2, THINGS + "deed a k at 1 1 ^1;");
+        bench.dueFault(2, THINGS + "deed a k at 1 1 in ^h at 1 1 in 1;");
+        bench.dueFault(2, THINGS + "deed a k at 1 1 ^h at 1 1 in 1;");
+        bench.dueFault(2, THINGS + "deed a k ^h at 1 1 in 1;");
+        bench.dueFault(2, THINGS + "deed a k at 1 1 in 1 ^at 1 1 in 1;");
+        bench.dueFault(2, THINGS + "deed a k at 1 1 in 1 ^deed b;");
         bench.dueFault(2, HEAD + "witness w at 0 0 looks ^sideways");
         bench.dueFault(2, HEAD + "witness w at 0 0 looks ^in");
         bench.dueFault(2, HEAD + "witness w at 0 0 looks ^from 0");
